@@ -70,7 +70,9 @@ public final class NamesTest {
         Check.due("turn(3)", x.turn(3, 97), false);
         Check.due("turn(-1)", x.turn(-1, 97), false);
         Check.due("turn(1)", x.turn(1, 0x7f00 + 'z'), true);
-        Check.due("turned", Check.textOf(x, x.name()).equals("azc"), true);
+        Check.due("turn(0)", x.turn(0, 'b'), true);
+        Check.due("turn(2)", x.turn(2, -256 + 'd'), true);
+        Check.due("turned", Check.textOf(x, x.name()).equals("bzd"), true);
     }
 
     private static void textsThatAreNames() {

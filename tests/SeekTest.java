@@ -587,35 +587,35 @@ public final class SeekTest {
         }
         message.feedTo(x);
         x.parse();
-        int[] types = {1, 2, 5, 16};
+        int[] types = {16, 1, 2, 5};
         for (int k = 0; k < 25; k++) {
-            x.record(0, k + 1, 16, k, k == 3 ? 40 : 50);
+            x.record(0, k + 1, 16, k, k == 0 ? 40 : 50);
         }
-        // Of each NAME a SET of 16 and NOTHINGS of the three others: all end at 50 but one at 40.
+        // Of each NAME a SET of 16 and NOTHINGS of the three others: all end at 50 but the first at 40.
         for (int k = 0; k < 100; k++) {
             x.ask(1 + k % 25, types[k / 25]);
             x.step();
         }
         Check.due("a hundred", x.count(6), 100);
-        Check.due("the one that ends first", x.cached(4, 16), 1);
+        Check.due("the one that ends first", x.cached(1, 16), 1);
         x.ask(26, 1);
         x.step();
         Check.due("still a hundred", x.count(6), 100);
-        Check.due("that goes", x.cached(4, 16), -1);
+        Check.due("that goes", x.cached(1, 16), -1);
         Check.due("for this one", x.cached(26, 0), 0);
-        Check.due("the first of those alike stays", x.cached(1, 1), 0);
-        x.tick(1);
-        x.ask(4, 16);
+        Check.due("those that end later stay", x.cached(2, 16), 1);
+        x.ask(1, 16);
         x.step();
-        Check.due("then the first that was put in goes", x.cached(1, 1), -1);
-        Check.due("the second stays", x.cached(2, 1), 0);
+        Check.due("of those alike the first that was put in goes", x.cached(2, 16), -1);
+        Check.due("the next one stays", x.cached(3, 16), 1);
+        Check.due("the one that came into an old place stays", x.cached(26, 0), 0);
         x.tick(40);
-        Check.due("it is over at 41", x.cached(4, 16), -1);
-        x.ask(4, 16);
+        Check.due("it is over at 40", x.cached(1, 16), -1);
+        x.ask(1, 16);
         x.step();
-        Check.due("one of the same goes, no other", x.cached(2, 1), 0);
+        Check.due("one of the same goes, no other", x.cached(3, 16), 1);
         Check.due("a hundred", x.count(6), 100);
-        Check.due("it is new", x.cached(4, 16), 1);
+        Check.due("it is new", x.cached(1, 16), 1);
     }
 
     private static void queries() {

@@ -259,6 +259,9 @@ public final class ZonesTest {
         Check.due("serves nothing", x.say(0, ba, 1), 0);
         x.serve(0, 0, true);
         Check.due("of the root", told(x, ba), 100);
+        int deep = Check.name(x, "f.e.d.c.b.a");
+        x.record(0, deep, 1, 106, 1);
+        Check.due("six labels under the root", told(x, deep), 106);
         x.serve(0, 1, true);
         Check.due("of b.a", told(x, ba), 101);
         x.serve(0, 2, true);
