@@ -103,7 +103,7 @@ final class Check {
         }
 
         Message name(String text) {
-            if (!text.equals(".")) {
+            if (!text.equals(".") && !text.isEmpty()) {
                 for (String label : text.split("\\.")) {
                     raw(label.length());
                     for (char c : label.toCharArray()) {

@@ -120,18 +120,7 @@ public final class NamesTest {
 
     private static void namesAreFull() {
         NameSeeker x = new NameSeeker();
-        // NAMES come from MESSAGES here, as an object is used for 512 calls alone.
-        for (int part = 0; part < 3; part++) {
-            int owners = part < 2 ? 40 : 19;
-            Check.Message message = new Check.Message(0, 0, owners, 0, 0).question(".", 1);
-            for (int k = 0; k < owners; k++) {
-                message.name("a.b." + (char) ('a' + k % 20) + (char) ('a' + k / 20) + part);
-                message.two(9).two(1).four(0).two(0);
-            }
-            message.feedTo(x);
-            Check.due("other types do not count", x.parse(), 0);
-        }
-        Check.due("298 names", x.count(0), 298);
+        Scene.fillNames(x, 298);
         Check.feed(x, "x.y.z");
         Check.thrown("three more", UnsupportedOperationException.class, x::name);
         Check.due("none of them was made", x.count(0), 298);

@@ -215,22 +215,7 @@ public final class ParseTest {
 
     private static void namesRunOut() {
         NameSeeker x = new NameSeeker();
-        for (int part = 0; part < 3; part++) {
-            Check.Message message = message(40, 0, 0).question(".", 1);
-            for (int k = 0; k < 40; k++) {
-                message.name("a.b." + (char) ('a' + k % 20) + (char) ('a' + k / 20) + part);
-                message.two(9).two(1).four(0).two(0);
-            }
-            if (part == 2) {
-                message.bytes.set(7, 19);
-                while (message.bytes.size() > 12 + 5 + 19 * 19) {
-                    message.bytes.remove(message.bytes.size() - 1);
-                }
-            }
-            message.feedTo(x);
-            x.parse();
-        }
-        Check.due("298 names", x.count(0), 298);
+        Scene.fillNames(x, 298);
         message(1, 0, 0).question(".", 1).head(".", 2, 1, 7).raw(1, 'x', 1, 'y', 1, 'z', 0).feedTo(x);
         Check.due("no room, in data too", x.parse(), -6);
         Check.due("but for those that had it", x.count(0), 300);

@@ -2,8 +2,8 @@ import java.util.NoSuchElementException;
 
 /** Promises 16 to 26: HINTS, time, SEEKINGS, the CACHE and counts. */
 public final class SeekTest {
-    private static final int REPLY = 0x8000;
-    private static final int AA = 0x400;
+    private static final int REPLY = Scene.REPLY;
+    private static final int AA = Scene.AA;
 
     public static void main(String[] args) {
         hints();
@@ -117,28 +117,8 @@ public final class SeekTest {
         Check.due("sent ever", x.count(7), 3);
     }
 
-    /** A root that tells of a, whose server is at 11 under ns.a; w.a has the addresses 77 and 78. */
-    private static NameSeeker tree() {
-        NameSeeker x = new NameSeeker();
-        Check.name(x, "a");
-        Check.name(x, "ns.a");
-        Check.name(x, "w.a");
-        x.zone(0, 50);
-        x.zone(1, 20);
-        x.server(10);
-        x.server(11);
-        x.serve(0, 0, true);
-        x.serve(1, 1, true);
-        x.record(0, 1, 2, 2, 100);
-        x.record(0, 2, 1, 11, 90);
-        x.record(1, 3, 1, 77, 30);
-        x.record(1, 3, 1, 78, 25);
-        x.hint(10);
-        return x;
-    }
-
     private static void walkDown() {
-        NameSeeker x = tree();
+        NameSeeker x = Scene.tree();
         x.feed(1, 2, 3, 4, 5);
         Check.due("ask", x.ask(3, 1), 1);
         Check.due("at the root", x.query(5), 0);
@@ -167,7 +147,7 @@ public final class SeekTest {
     }
 
     private static void serverThatIsNotThere() {
-        NameSeeker x = tree();
+        NameSeeker x = Scene.tree();
         x.serve(1, 1, false);
         x.ask(3, 1);
         x.step();
@@ -177,7 +157,7 @@ public final class SeekTest {
     }
 
     private static void lost() {
-        NameSeeker x = tree();
+        NameSeeker x = Scene.tree();
         x.hint(12);
         x.ask(3, 1);
         Check.due("lost", x.lose(), 1);
@@ -188,7 +168,7 @@ public final class SeekTest {
     }
 
     private static void unknownHost() {
-        NameSeeker x = tree();
+        NameSeeker x = Scene.tree();
         Check.name(x, "b");
         Check.name(x, "q.b");
         x.record(0, 4, 2, 3, 60);
@@ -221,7 +201,7 @@ public final class SeekTest {
     }
 
     private static void hostsInCircle() {
-        NameSeeker x = tree();
+        NameSeeker x = Scene.tree();
         x.drop(0, 2, 1);
         x.ask(3, 1);
         Check.due("led to a without an address", x.step(), 0);
@@ -255,30 +235,9 @@ public final class SeekTest {
         Check.due("queries", x.result(4), 4);
     }
 
-    private static Check.Message reply(NameSeeker x, int flags, int first, int second, int third) {
-        Check.Message message = new Check.Message(x.query(1), REPLY + flags, first, second, third);
-        return message.question(Check.textOf(x, x.query(2)), x.query(3));
-    }
-
-    private static int forge(NameSeeker x, Check.Message message) {
-        message.feedTo(x);
-        int got = x.forge();
-        Check.due("forge uses the tape up", x.count(8), 0);
-        return got;
-    }
-
-    /** Asks for w.b.a and is out to the only hint. */
-    private static NameSeeker asking(int type) {
-        NameSeeker x = new NameSeeker();
-        Check.name(x, "w.b.a");
-        x.hint(1);
-        x.ask(3, type);
-        return x;
-    }
-
     private static void addressesInTurn() {
-        NameSeeker x = asking(1);
-        forge(x, reply(x, 0, 0, 3, 4).named("a", 2, "m", 9).named("a", 2, "n", 9).named("a", 2, "o", 9)
+        NameSeeker x = Scene.asking(1);
+        Scene.forge(x, Scene.reply(x, 0, 0, 3, 4).named("a", 2, "m", 9).named("a", 2, "n", 9).named("a", 2, "o", 9)
             .address("n", 5, 9).address("m", 8, 9).address("n", 8, 9).address("m", 6, 9));
         int[] want = {8, 6, 5};
         for (int address : want) {
@@ -292,11 +251,11 @@ public final class SeekTest {
     }
 
     private static void placeChangesWhatWasTried() {
-        NameSeeker x = asking(1);
-        forge(x, reply(x, 0, 0, 1, 1).named("a", 2, "m", 9).address("m", 1, 9));
+        NameSeeker x = Scene.asking(1);
+        Scene.forge(x, Scene.reply(x, 0, 0, 1, 1).named("a", 2, "m", 9).address("m", 1, 9));
         Check.due("1 is asked once more", x.query(0), 1);
         Check.due("at a", Check.textOf(x, x.query(5)).equals("a"), true);
-        forge(x, reply(x, 0, 0, 1, 0).named("b.a", 2, "m", 9));
+        Scene.forge(x, Scene.reply(x, 0, 0, 1, 0).named("b.a", 2, "m", 9));
         Check.due("and once more", x.query(0), 1);
         Check.due("at b.a", Check.textOf(x, x.query(5)).equals("b.a"), true);
         x.tick(9);
@@ -342,15 +301,15 @@ public final class SeekTest {
     }
 
     private static void chainOfAnother() {
-        NameSeeker x = asking(5);
-        forge(x, reply(x, AA, 2, 0, 0).named("w.b.a", 5, "x", 9).named("w.b.a", 5, "y", 9));
+        NameSeeker x = Scene.asking(5);
+        Scene.forge(x, Scene.reply(x, AA, 2, 0, 0).named("w.b.a", 5, "x", 9).named("w.b.a", 5, "y", 9));
         Check.due("both of a type that was asked for", x.result(1), 2);
         x.ask(3, 1);
         Check.due("the first is followed", Check.textOf(x, x.query(2)).equals("x"), true);
         Check.due("chains while it goes", x.result(2), 1);
         Check.due("name while it goes", x.result(3), x.query(2));
-        NameSeeker y = asking(1);
-        forge(y, reply(y, AA, 3, 0, 0).named("x", 5, "q", 9).named("w.b.a", 5, "x", 7).named("w.b.a", 5, "y", 3));
+        NameSeeker y = Scene.asking(1);
+        Scene.forge(y, Scene.reply(y, AA, 3, 0, 0).named("x", 5, "q", 9).named("w.b.a", 5, "x", 7).named("w.b.a", 5, "y", 3));
         Check.due("the first one alone", y.cached(3, 5), 1);
         Check.due("is followed", Check.textOf(y, y.query(2)).equals("x"), true);
         Check.due("others are not kept", y.cached(y.query(2), 5), -1);
@@ -361,8 +320,8 @@ public final class SeekTest {
     }
 
     private static void nothings() {
-        NameSeeker x = asking(1);
-        Check.due("absent ends it", forge(x, reply(x, 3, 0, 1, 0).soa(".", 20, 10)), 0);
+        NameSeeker x = Scene.asking(1);
+        Check.due("absent ends it", Scene.forge(x, Scene.reply(x, 3, 0, 1, 0).soa(".", 20, 10)), 0);
         Check.due("absent", x.result(0), 2);
         Check.due("of the name", x.cached(3, 0), 0);
         Check.due("not of the type", x.cached(3, 1), -1);
@@ -374,12 +333,12 @@ public final class SeekTest {
         x.tick(1);
         Check.due("is over", x.cached(3, 0), -1);
         x.ask(3, 1);
-        Check.due("empty ends it", forge(x, reply(x, AA, 0, 1, 0).soa("elsewhere", 5, 10)), 0);
+        Check.due("empty ends it", Scene.forge(x, Scene.reply(x, AA, 0, 1, 0).soa("elsewhere", 5, 10)), 0);
         Check.due("empty", x.result(0), 1);
         Check.due("of name and type", x.cached(3, 1), 0);
         Check.due("not of the name", x.cached(3, 0), -1);
         Check.due("another type is asked", x.ask(3, 16), 1);
-        Check.due("absent, too", forge(x, reply(x, 3, 0, 2, 0).soa(".", 50, 60).soa(".", 1, 1)), 0);
+        Check.due("absent, too", Scene.forge(x, Scene.reply(x, 3, 0, 2, 0).soa(".", 50, 60).soa(".", 1, 1)), 0);
         x.ask(3, 1);
         Check.due("absent is told ahead of empty", x.result(0), 2);
         x.tick(49);
@@ -393,7 +352,7 @@ public final class SeekTest {
         Check.name(x, "m");
         x.hint(1);
         x.ask(0, 2);
-        Check.due("the root's hosts", forge(x, reply(x, AA, 1, 0, 0).named(".", 2, "m", 9)), 0);
+        Check.due("the root's hosts", Scene.forge(x, Scene.reply(x, AA, 1, 0, 0).named(".", 2, "m", 9)), 0);
         x.ask(0, 1);
         Check.due("in place of hints, which do not tell where m is", x.result(0), 3);
         x.tick(9);
@@ -402,15 +361,15 @@ public final class SeekTest {
     }
 
     private static void fortyQueries() {
-        NameSeeker x = asking(1);
-        Check.Message wide = reply(x, 0, 0, 5, 45);
+        NameSeeker x = Scene.asking(1);
+        Check.Message wide = Scene.reply(x, 0, 0, 5, 45);
         for (int k = 0; k < 5; k++) {
             wide.named("a", 2, "" + (char) ('m' + k), 9);
         }
         for (int k = 0; k < 45; k++) {
             wide.address("" + (char) ('m' + k / 9), k, 9);
         }
-        forge(x, wide);
+        Scene.forge(x, wide);
         for (int k = 0; k < 38; k++) {
             Check.due("address " + k, x.query(0), k);
             x.lose();
@@ -425,7 +384,7 @@ public final class SeekTest {
     }
 
     private static void notAReply() {
-        NameSeeker x = asking(1);
+        NameSeeker x = Scene.asking(1);
         int id = x.query(1);
         Check.Message[] wrong = {
             new Check.Message(id + 1, REPLY, 1, 0, 0).question("w.b.a", 1).address("w.b.a", 7, 9),
@@ -437,48 +396,48 @@ public final class SeekTest {
             new Check.Message(id, REPLY, 0, 0, 0).question("w.b.a", 1).address("w.b.a", 7, 9),
         };
         for (int k = 0; k < wrong.length; k++) {
-            Check.due("none to it: " + k, forge(x, wrong[k]), -1);
+            Check.due("none to it: " + k, Scene.forge(x, wrong[k]), -1);
             Check.due("the query is out still", x.query(0), 1);
             Check.due("nothing is kept", x.count(6), 0);
         }
         int names = x.count(0);
-        Check.due("with a new name", forge(x, new Check.Message(id, REPLY, 1, 0, 0).question("w.b.a", 1)
+        Check.due("with a new name", Scene.forge(x, new Check.Message(id, REPLY, 1, 0, 0).question("w.b.a", 1)
             .address("new", 7, 9).raw(0)), -1);
         Check.due("the name is made", x.count(0), names + 1);
         Check.due("empty tape", x.forge(), -1);
-        Check.due("a reply at last", forge(x, new Check.Message(id, REPLY, 1, 0, 0).question("w.b.a", 1)
+        Check.due("a reply at last", Scene.forge(x, new Check.Message(id, REPLY, 1, 0, 0).question("w.b.a", 1)
             .address("w.b.a", 7, 9)), 0);
         Check.due("found", x.data(0), 7);
     }
 
     private static void repliesTakeTheFirstThatFits() {
-        NameSeeker x = asking(1);
-        forge(x, reply(x, AA + 3, 2, 2, 1).named("w.b.a", 5, "q", 9).address("w.b.a", 7, 9).soa(".", 9, 9)
+        NameSeeker x = Scene.asking(1);
+        Scene.forge(x, Scene.reply(x, AA + 3, 2, 2, 1).named("w.b.a", 5, "q", 9).address("w.b.a", 7, 9).soa(".", 9, 9)
             .named("a", 2, "m", 9).address("m", 5, 9));
         Check.due("the set alone", x.count(6), 1);
         Check.due("found", x.data(0), 7);
-        NameSeeker y = asking(1);
-        forge(y, reply(y, AA + 3, 2, 1, 0).address("a", 3, 9).named("w.b.a", 5, "q", 9).soa(".", 9, 9));
+        NameSeeker y = Scene.asking(1);
+        Scene.forge(y, Scene.reply(y, AA + 3, 2, 1, 0).address("a", 3, 9).named("w.b.a", 5, "q", 9).soa(".", 9, 9));
         Check.due("the alias alone", y.count(6), 1);
         Check.due("it is kept", y.cached(3, 5), 1);
-        NameSeeker z = asking(5);
-        forge(z, reply(z, AA, 1, 1, 0).address("w.b.a", 3, 9).soa(".", 9, 9));
+        NameSeeker z = Scene.asking(5);
+        Scene.forge(z, Scene.reply(z, AA, 1, 1, 0).address("w.b.a", 3, 9).soa(".", 9, 9));
         Check.due("no alias: nothing of it", z.cached(3, 5), 0);
-        NameSeeker u = asking(1);
-        forge(u, reply(u, 0, 0, 2, 1).soa(".", 9, 9).named("a", 2, "m", 9).address("m", 5, 9));
+        NameSeeker u = Scene.asking(1);
+        Scene.forge(u, Scene.reply(u, 0, 0, 2, 1).soa(".", 9, 9).named("a", 2, "m", 9).address("m", 5, 9));
         Check.due("without aa the referral", u.count(6), 2);
-        NameSeeker v = asking(1);
-        forge(v, reply(v, AA + 2, 0, 2, 1).soa(".", 9, 9).named("a", 2, "m", 9).address("m", 5, 9));
+        NameSeeker v = Scene.asking(1);
+        Scene.forge(v, Scene.reply(v, AA + 2, 0, 2, 1).soa(".", 9, 9).named("a", 2, "m", 9).address("m", 5, 9));
         Check.due("with another code, too", v.count(6), 2);
-        NameSeeker w = asking(1);
-        forge(w, reply(w, AA + 3, 1, 0, 1).soa(".", 9, 9).soa(".", 9, 9));
+        NameSeeker w = Scene.asking(1);
+        Scene.forge(w, Scene.reply(w, AA + 3, 1, 0, 1).soa(".", 9, 9).soa(".", 9, 9));
         Check.due("an soa of another section is none", w.count(6), 0);
         Check.due("it failed", w.result(0), 3);
-        NameSeeker t = asking(1);
-        forge(t, reply(t, 0, 0, 1, 0).address("w.b.a", 3, 9));
+        NameSeeker t = Scene.asking(1);
+        Scene.forge(t, Scene.reply(t, 0, 0, 1, 0).address("w.b.a", 3, 9));
         Check.due("an address of another section is none", t.count(6), 0);
-        NameSeeker s = asking(1);
-        forge(s, reply(s, AA, 1, 1, 0).name("w.b.a").two(1).two(3).four(9).two(4).four(7)
+        NameSeeker s = Scene.asking(1);
+        Scene.forge(s, Scene.reply(s, AA, 1, 1, 0).name("w.b.a").two(1).two(3).four(9).two(4).four(7)
             .name(".").two(6).two(3).four(9).two(22).raw(new int[22]));
         Check.due("other classes do not count", s.count(6), 0);
     }
@@ -486,29 +445,29 @@ public final class SeekTest {
     private static void badReferrals() {
         String[] owners = {".", "c", "x.w.b.a", "c.a"};
         for (String owner : owners) {
-            NameSeeker x = asking(1);
-            forge(x, reply(x, 0, 0, 2, 1).named(owner, 2, "m", 9).named("a", 2, "m", 9).address("m", 5, 9));
+            NameSeeker x = Scene.asking(1);
+            Scene.forge(x, Scene.reply(x, 0, 0, 2, 1).named(owner, 2, "m", 9).named("a", 2, "m", 9).address("m", 5, 9));
             Check.due("not to " + owner, x.count(6), 0);
             Check.due("failed", x.result(0), 3);
         }
-        NameSeeker x = asking(1);
-        forge(x, reply(x, 0, 0, 1, 1).named("b.a", 2, "m", 9).address("m", 5, 9));
+        NameSeeker x = Scene.asking(1);
+        Scene.forge(x, Scene.reply(x, 0, 0, 1, 1).named("b.a", 2, "m", 9).address("m", 5, 9));
         for (String owner : new String[] {"a", "b.a"}) {
             Check.due("at", Check.textOf(x, x.query(5)).equals("b.a"), true);
-            Check.Message up = reply(x, 0, 0, 1, 1).named(owner, 2, "n", 9).address("n", 6, 9);
+            Check.Message up = Scene.reply(x, 0, 0, 1, 1).named(owner, 2, "n", 9).address("n", 6, 9);
             if (owner.equals("a")) {
-                Check.due("not up", forge(x, up), 0);
+                Check.due("not up", Scene.forge(x, up), 0);
                 x.ask(3, 1);
             } else {
-                Check.due("not to itself", forge(x, up), 0);
+                Check.due("not to itself", Scene.forge(x, up), 0);
             }
         }
         Check.due("nothing came", x.count(6), 2);
     }
 
     private static void referralTakes() {
-        NameSeeker x = asking(1);
-        forge(x, reply(x, 0, 0, 4, 5).named("b.a", 2, "m", 9).named("a", 2, "n", 3).named("b.a", 2, "o", 7)
+        NameSeeker x = Scene.asking(1);
+        Scene.forge(x, Scene.reply(x, 0, 0, 4, 5).named("b.a", 2, "m", 9).named("a", 2, "n", 3).named("b.a", 2, "o", 7)
             .address("b.a", 1, 1).address("m", 5, 9).address("n", 6, 9).address("o", 7, 9).address("m", 8, 4)
             .number("o", 1, 1));
         int m = Check.name(x, "m");
@@ -526,20 +485,20 @@ public final class SeekTest {
         x.tick(3);
         Check.due("the hosts' least life", x.cached(2, 2), -1);
         Check.due("o's", x.cached(o, 1), 1);
-        NameSeeker y = asking(1);
-        forge(y, reply(y, 0, 0, 1, 1).named("a", 2, "m", 0).address("m", 5, 9));
+        NameSeeker y = Scene.asking(1);
+        Scene.forge(y, Scene.reply(y, 0, 0, 1, 1).named("a", 2, "m", 0).address("m", 5, 9));
         Check.due("a set without life brings its addresses", y.cached(Check.name(y, "m"), 1), 1);
         Check.due("and is kept, but does not hold", y.count(6), 2);
         Check.due("so", y.cached(1, 2), -1);
     }
 
     private static void sets() {
-        NameSeeker x = asking(16);
-        Check.Message many = reply(x, AA, 15, 0, 0);
+        NameSeeker x = Scene.asking(16);
+        Check.Message many = Scene.reply(x, AA, 15, 0, 0);
         for (int k = 0; k < 15; k++) {
             many.number("w.b.a", k < 3 ? 0 : k, k == 14 ? 2 : 9);
         }
-        forge(x, many);
+        Scene.forge(x, many);
         Check.due("ten", x.result(1), 10);
         Check.due("the first", x.data(0), 0);
         Check.due("then the first unlike", x.data(1), 3);
@@ -553,24 +512,24 @@ public final class SeekTest {
     }
 
     private static void lives() {
-        NameSeeker x = asking(1);
-        forge(x, reply(x, AA, 1, 0, 0).address("w.b.a", 7, 0xffffffffL));
+        NameSeeker x = Scene.asking(1);
+        Scene.forge(x, Scene.reply(x, AA, 1, 0, 0).address("w.b.a", 7, 0xffffffffL));
         x.tick(100000);
         Check.due("lives have no sign", x.cached(3, 1), 1);
         x.ask(3, 16);
-        forge(x, reply(x, AA, 0, 1, 0).soa(".", 0xffffffffL, 0x80000000L));
+        Scene.forge(x, Scene.reply(x, AA, 0, 1, 0).soa(".", 0xffffffffL, 0x80000000L));
         Check.due("nor has the last number", x.cached(3, 16), 0);
         x.ask(3, 2);
-        Check.due("life 0 does not hold", forge(x, reply(x, AA, 1, 0, 0).named("w.b.a", 2, "m", 0)), 0);
+        Check.due("life 0 does not hold", Scene.forge(x, Scene.reply(x, AA, 1, 0, 0).named("w.b.a", 2, "m", 0)), 0);
         Check.due("failed", x.result(0), 3);
         Check.due("but it is there", x.count(6), 3);
         x.ask(3, 2);
-        forge(x, reply(x, AA, 0, 1, 0).soa(".", 5, 5));
+        Scene.forge(x, Scene.reply(x, AA, 0, 1, 0).soa(".", 5, 5));
         Check.due("another of that name and type goes", x.count(6), 3);
         Check.due("a nothing in the place of a set", x.cached(3, 2), 0);
         x.tick(5);
         x.ask(3, 2);
-        forge(x, reply(x, AA, 1, 0, 0).named("w.b.a", 2, "m", 5));
+        Scene.forge(x, Scene.reply(x, AA, 1, 0, 0).named("w.b.a", 2, "m", 5));
         Check.due("a set in the place of a nothing", x.cached(3, 2), 1);
         Check.due("as many", x.count(6), 3);
     }
@@ -619,7 +578,7 @@ public final class SeekTest {
     }
 
     private static void queries() {
-        NameSeeker x = asking(16);
+        NameSeeker x = Scene.asking(16);
         int[] want = {1, 1, 3, 16, 1, 0};
         for (int what = 0; what < want.length; what++) {
             Check.due("query(" + what + ")", x.query(what), want[what]);
@@ -631,7 +590,7 @@ public final class SeekTest {
     }
 
     private static void results() {
-        NameSeeker x = asking(16);
+        NameSeeker x = Scene.asking(16);
         int[] going = {4, 0, 0, 3, 1};
         for (int what = 0; what < going.length; what++) {
             Check.due("going: result(" + what + ")", x.result(what), going[what]);
@@ -651,7 +610,7 @@ public final class SeekTest {
     }
 
     private static void counts() {
-        NameSeeker x = tree();
+        NameSeeker x = Scene.tree();
         x.hint(4);
         x.tick(6);
         x.ask(3, 1);

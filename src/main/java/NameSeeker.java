@@ -24,6 +24,8 @@ public final class NameSeeker {
     private static final int MOST_QUERIES = 40;
     // A RECORD that counts takes twelve bytes at least, so a MESSAGE has no more than 82 of them.
     private static final int MOST_ROWS = 90;
+    // A LIFE that is read has 32 bits and no sign.
+    private static final long ABOVE_LIVES = 4294967296L;
     // Without a QUERY between them some ten thousand moves are the most that four FRAMES can make.
     private static final int MOST_MOVES = 1000000;
 
@@ -1820,7 +1822,7 @@ public final class NameSeeker {
         /** Answers how many DATA the SET has; where there are none it is not kept. */
         private int keepSet(Rows rows, int section, int owner, int type) {
             int size = 0;
-            long least = Long.MAX_VALUE;
+            long least = ABOVE_LIVES;
             for (int r = 0; r < rows.size(); r++) {
                 if (rows.isOf(r, section, owner, type)) {
                     least = Math.min(least, unsigned(rows.life(r)));
@@ -1883,7 +1885,7 @@ public final class NameSeeker {
         }
 
         private static long unsigned(int number) {
-            return number & 4294967295L;
+            return number & ABOVE_LIVES - 1;
         }
     }
 }
