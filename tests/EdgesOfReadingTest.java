@@ -99,6 +99,10 @@ public final class EdgesOfReadingTest {
                 Check.due("byte " + v, question(name), want);
             }
         }
+        for (int v = 0; v < 256; v++) {
+            // Of a byte behind which there is nothing the first FAULT is that of the byte itself.
+            Check.due("byte " + v + " at the end", parse(message(0, 0, 0).raw(v)), v > 10 && v < 192 ? -2 : -3);
+        }
         Check.due("64 behind a label", question(1, 'a', 64), -2);
         Check.due("191 behind a label", question(1, 'a', 191), -2);
         Check.due("192 behind a label", question(1, 'a', 192, 0), 0);
@@ -143,6 +147,13 @@ public final class EdgesOfReadingTest {
             .raw(0).two(9).two(1).four(0).two(4).raw(1, 'b', LEAD, 30)
             .raw(LEAD, 30).two(9).two(1).four(0).two(0);
         Check.due("a part that leads to its own beginning", parse(within), -2);
+        for (int place = 30; place < 34; place++) {
+            // The part leads up to a root, which is below where the NAME begins.
+            Check.Message up = message(2, 0, 0).question("a", 1)
+                .raw(0).two(9).two(1).four(0).two(6).raw(1, 'b', LEAD, place + 2, 0, 0)
+                .raw(LEAD, 30).two(9).two(1).four(0).two(0);
+            Check.due("a part that leads up to " + (place + 2), parse(up), -2);
+        }
         within.bytes.set(33, 12);
         Check.due("a part that leads below it", parse(within), 0);
         Check.Message chain = message(20, 0, 0).question("a", 1);
@@ -239,6 +250,13 @@ public final class EdgesOfReadingTest {
             Check.feed(x, whole);
             x.end(n);
             Check.due("cut to " + n, x.parse(), n < whole.length ? -3 : 5);
+        }
+        int[] alone = message(0, 0, 0).question("q.z", 1).all();
+        for (int n = 12; n <= alone.length; n++) {
+            NameSeeker x = new NameSeeker();
+            Check.feed(x, alone);
+            x.end(n);
+            Check.due("a question cut to " + n, x.parse(), n < alone.length ? -3 : 0);
         }
     }
 

@@ -13,12 +13,14 @@ public final class EdgesOfSeekingTest {
         cachedSetEndsIt();
         eightChains();
         chainsWithoutAnEnd();
+        chainsOfAnotherFrame();
         chainsOfTypeFive();
         chainsForgetWhatWasTried();
         chainsForgetWhoWasSentFor();
         chainsToTheFirstData();
         absentAheadOfEmpty();
         nearestName();
+        nearestOfSix();
         rootWithoutASet();
         eachAddressOnce();
         addressesOfAllHosts();
@@ -27,6 +29,7 @@ public final class EdgesOfSeekingTest {
         fortyQueries();
         fortyQueriesOfAllFrames();
         sentForOnce();
+        sentForTheRoot();
         sentForThoseWithoutASet();
         fourFrames();
         onlyTheFifthFails();
@@ -182,6 +185,19 @@ public final class EdgesOfSeekingTest {
         Check.due("at the first again", x.result(3), 1);
     }
 
+    /** Terms 4 (b): "it ends, FAILED": the FRAME does, and the one that sent for it goes on. */
+    private static void chainsOfAnotherFrame() {
+        NameSeeker x = Scene.asking(1);
+        Scene.forge(x, Scene.reply(x, 0, 0, 2, 0).named("a", 2, "m", 9).named("a", 2, "n", 9));
+        Check.due("m is sent for", Scene.asked(x).equals("m"), true);
+        Check.due("m stands for itself", Scene.forge(x, Scene.reply(x, AA, 1, 0, 0).named("m", 5, "m", 9)), 1);
+        Check.due("so n is sent for", Scene.asked(x).equals("n"), true);
+        Check.due("in a second frame", x.query(4), 2);
+        Check.due("the chains of the first", x.result(2), 0);
+        Scene.forge(x, Scene.reply(x, AA, 1, 0, 0).address("n", 6, 9));
+        Check.due("the first goes on", x.query(0), 6);
+    }
+
     /** Terms 4 (b): "TYPE is not 5". */
     private static void chainsOfTypeFive() {
         NameSeeker x = chain(2);
@@ -273,6 +289,20 @@ public final class EdgesOfSeekingTest {
             if (k < 3) {
                 Check.due("at its end another", x.lose(), 1);
             }
+        }
+    }
+
+    /** Terms 4 (d): "The nearest NAME", six LABELS up. */
+    private static void nearestOfSix() {
+        NameSeeker x = new NameSeeker();
+        int deep = Check.name(x, "f.e.d.c.b.a");
+        x.hint(1);
+        x.ask(deep, 1);
+        for (int place = 1; place <= 6; place++) {
+            String owner = "f.e.d.c.b.a".substring(12 - 2 * place);
+            Scene.forge(x, Scene.reply(x, 0, 0, 1, 1).named(owner, 2, "m", 9).address("m", 50 + place, 9));
+            Check.due("at " + owner, x.query(5), place);
+            Check.due("to its host", x.query(0), 50 + place);
         }
     }
 
@@ -445,6 +475,25 @@ public final class EdgesOfSeekingTest {
         Check.due("three queries", x.result(4), 3);
     }
 
+    /** Terms 4 (f): a host may be the root itself, which is a NAME like others. */
+    private static void sentForTheRoot() {
+        NameSeeker x = Scene.asking(16);
+        Scene.forge(x, Scene.reply(x, 0, 0, 1, 0).named("a", 2, ".", 9));
+        Check.due("the root is sent for", x.query(2), 0);
+        Check.due("of type 1", x.query(3), 1);
+        Check.due("in a second frame", x.query(4), 2);
+        Scene.forge(x, Scene.reply(x, AA, 1, 0, 0).address(".", 6, 9));
+        Check.due("the first goes on", x.query(0), 6);
+        x.lose();
+        x.tick(9);
+        x.ask(0, 1);
+        Scene.forge(x, Scene.reply(x, AA, 1, 0, 0).address(".", 7, 9));
+        x.ask(3, 16);
+        Scene.forge(x, Scene.reply(x, 0, 0, 1, 1).named("a", 2, "m", 9).address("m", 5, 9));
+        Check.due("to m", x.query(0), 5);
+        Check.due("and not to where the root is, which is no host here", x.lose(), 0);
+    }
+
     /** Terms 4 (f): "The first of these NAMES that has no SET of TYPE 1"; one that is over is none. */
     private static void sentForThoseWithoutASet() {
         NameSeeker x = Scene.asking(1);
@@ -608,6 +657,13 @@ public final class EdgesOfSeekingTest {
         NameSeeker z = Scene.asking(1);
         Scene.forge(z, Scene.reply(z, AA, 1, 1, 0).named("b.a", 5, "p", 8).soa(".", 9, 9));
         Check.due("of another name none: empty", z.result(0), 1);
+        for (int code : new int[] {0, 3, AA, AA + 3}) {
+            NameSeeker u = Scene.asking(1);
+            Scene.forge(u, Scene.reply(u, code, 1, 2, 1).named("w.b.a", 5, "p", 8).soa(".", 9, 9)
+                .named("a", 2, "m", 9).address("m", 5, 9));
+            Check.due("nothing else with code " + code, u.count(6), 1);
+            Check.due("the chain", u.cached(3, 5), 1);
+        }
     }
 
     /** Terms 4: "CODE is 3 and an SOA ..; CODE is 0, with AA, and such an SOA"; "the first SOA that counts". */
@@ -685,6 +741,9 @@ public final class EdgesOfSeekingTest {
         NameSeeker y = Scene.asking(1);
         Scene.forge(y, Scene.reply(y, 0, 0, 2, 0).named("c", 2, "m", 9).named("a", 2, "m", 9));
         Check.due("a first one that does not fit", y.count(6), 0);
+        NameSeeker z = Scene.asking(1);
+        Scene.forge(z, Scene.reply(z, 0, 0, 1, 2).named("a", 2, "m", 9).address("m", 5, 9).address(".", 6, 9));
+        Check.due("the root is no host of it", z.cached(0, 1), -1);
     }
 
     /** Terms 4: "DATA of the first ten that are unlike", of hosts; an eleventh brings no address. */

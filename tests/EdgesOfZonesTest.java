@@ -20,6 +20,7 @@ public final class EdgesOfZonesTest {
         recordsAre150();
         recordHowManyOfThatZone();
         dropHowMany();
+        dropLeavesOthers();
         dropNoSuch();
         serverOneOfAnAddress();
         serversAreTwelve();
@@ -36,6 +37,7 @@ public final class EdgesOfZonesTest {
         codeThree();
         typeOfTwoBytes();
         thousandBytes();
+        idAndFlags();
         bytesOfAnAnswer();
         bytesOfAReferral();
         bytesOfAnSoa();
@@ -212,7 +214,18 @@ public final class EdgesOfZonesTest {
         Check.thrown("outside", IllegalArgumentException.class, () -> x.record(1, 0, 1, 0, 1));
         Check.thrown("no zone", IndexOutOfBoundsException.class, () -> x.record(2, 0, 1, 0, 1));
         Check.due("150", x.count(2), 150);
+        x.server(1);
+        x.serve(0, 1, true);
+        x.say(0, 1, 1);
+        Check.due("the last one is said", x.parse(), 1);
+        Check.due("its data", x.parsed(0, 3), 9);
         Check.due("one goes", x.drop(1, 1, 1), 1);
+        Check.due("a host comes", x.record(0, 1, 2, 1, 1), 150);
+        x.serve(0, 0, true);
+        x.serve(0, 1, false);
+        x.say(0, 1, 1);
+        Check.due("a referral of a full zone", x.parse(), 1);
+        Check.due("and that goes", x.drop(0, 1, 2), 1);
         Check.due("one comes", x.record(0, 0, 1, 0, 1), 150);
         Check.thrown("full again", UnsupportedOperationException.class, () -> x.record(0, 0, 1, 0, 1));
     }
@@ -251,6 +264,54 @@ public final class EdgesOfZonesTest {
         Check.due("no more", x.drop(0, 1, 1), 0);
         Check.due("the one under it stayed", x.drop(0, 2, 1), 1);
         Check.due("none is left", x.count(2), 0);
+    }
+
+    /** Promise 10: those that do not go stay as they were, in their order. */
+    private static void dropLeavesOthers() {
+        NameSeeker x = Scene.rooted();
+        Check.name(x, "a");
+        Check.name(x, "m");
+        for (int k = 0; k < 9; k++) {
+            x.record(0, k % 3, k % 3 == 1 ? 2 : 1, k % 3 == 1 ? 2 : 50 + k, 1 + k);
+        }
+        Check.due("three go", x.drop(0, 0, 1), 3);
+        x.say(0, 1, 1);
+        Check.due("hosts and addresses", x.parse(), 6);
+        int[] data = {2, 2, 2, 52, 55, 58};
+        int[] lives = {2, 5, 8, 3, 6, 9};
+        for (int k = 0; k < 6; k++) {
+            Check.due("data " + k, x.parsed(k, 3), data[k]);
+            Check.due("life " + k, x.parsed(k, 4), lives[k]);
+        }
+        x.record(0, 0, 16, 1, 1);
+        Check.due("an address from the end goes", x.drop(0, 2, 1), 3);
+        x.say(0, 1, 1);
+        Check.due("it is not told any more", x.parse(), 3);
+        Check.due("the hosts go", x.drop(0, 1, 2), 3);
+        x.record(0, 2, 1, 60, 1);
+        x.say(0, 1, 1);
+        Check.due("so there is no cut", x.parse(), 1);
+        Check.due("but the soa", x.parsed(0, 2), 6);
+        x.record(0, 1, 2, 0, 1);
+        x.say(0, 1, 1);
+        Check.due("a new host without an address", x.parse(), 1);
+        Check.due("is told", x.parsed(0, 2), 2);
+        NameSeeker y = Scene.rooted();
+        Check.name(y, "a");
+        Check.name(y, "m");
+        y.record(0, 1, 2, 0, 9);
+        y.record(0, 2, 1, 5, 9);
+        y.record(0, 1, 2, 2, 9);
+        y.drop(0, 1, 2);
+        y.record(0, 1, 2, 0, 9);
+        y.say(0, 1, 1);
+        Check.due("m is its host no more", y.parse(), 1);
+        y.record(0, 0, 1, 6, 9);
+        y.say(0, 1, 1);
+        Check.due("where its host is", y.parse(), 2);
+        y.drop(0, 0, 1);
+        y.say(0, 1, 1);
+        Check.due("where its host was", y.parse(), 1);
     }
 
     /** Promise 10, and "IndexOutOfBoundsException: there is no such NAME, ZONE". */
@@ -528,6 +589,11 @@ public final class EdgesOfZonesTest {
         x.drop(0, 3, 1);
         code("an owner no more", x, 2, 2);
         code("the apex", x, 1, 1);
+        NameSeeker y = Scene.rooted();
+        Check.name(y, "b.a");
+        y.record(0, 2, 1, 7, 9);
+        y.tick(50);
+        code("above the only owner", y, 1, 1);
     }
 
     /** What a seeking makes of what is said: 1 EMPTY, 2 ABSENT. */
@@ -584,6 +650,56 @@ public final class EdgesOfZonesTest {
         }
         Check.due("as long as it can be", y.say(0, 1, 1), 0);
         Check.due("another type can be said", y.say(0, 1, 16), 12 + 12 + 4 + 11 + 22);
+    }
+
+    /**
+     * What a seeking makes of an SOA behind the ID and the flags that were said, with bits turned into
+     * the flags: 1 EMPTY, 2 ABSENT, 3 FAILED; 4 if the ID is not the one that is due.
+     */
+    private static int withSoa(NameSeeker x, int name, int turned) {
+        x.ask(name, 1);
+        x.say(0, name, 1);
+        x.end(4);
+        x.turn(1, x.query(1));
+        if (turned > 0) {
+            x.turn(2, turned);
+        }
+        int[] all = new Check.Message(0, 0, 0, 1, 0).question(Check.textOf(x, name), 1).soa(".", 9, 9).all();
+        for (int i = 4; i < all.length; i += 20) {
+            x.feed(0, 0, 0, 0, 0);
+        }
+        for (int i = 4; i < all.length; i++) {
+            x.turn(i, all[i]);
+        }
+        x.end(all.length);
+        x.forge();
+        return x.result(0);
+    }
+
+    /** Promise 13: "a MESSAGE of ID 0"; terms 2: "flags: two bytes: 32768, and 1024 with AA, and CODE". */
+    private static void idAndFlags() {
+        NameSeeker cut = Scene.rooted();
+        Check.name(cut, "a");
+        cut.record(0, 1, 2, 0, 9);
+        Check.due("a referral: no aa", withSoa(cut, 1, 0), 3);
+        NameSeeker again = Scene.rooted();
+        Check.name(again, "a");
+        again.record(0, 1, 2, 0, 9);
+        Check.due("a referral: code 0", withSoa(again, 1, 0x84), 1);
+        NameSeeker there = Scene.rooted();
+        there.record(0, 0, 1, 5, 9);
+        Check.due("an answer: aa and code 0", withSoa(there, 0, 0), 1);
+        Check.due("an soa of the apex: aa and code 0", withSoa(Scene.rooted(), 0, 0), 1);
+        NameSeeker absent = Scene.rooted();
+        Check.name(absent, "a");
+        Check.due("absent: code 3", withSoa(absent, 1, 0), 2);
+        NameSeeker other = Scene.rooted();
+        other.ask(0, 1);
+        other.say(0, 0, 1);
+        Check.due("of id 0", other.forge(), -1);
+        other.say(0, 0, 1);
+        other.turn(1, 1);
+        Check.due("its lower byte alone is turned", other.forge(), 0);
     }
 
     private static void bytes(String what, Supplier<NameSeeker> said, Check.Message want) {
