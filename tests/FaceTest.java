@@ -39,7 +39,7 @@ public final class FaceTest {
     };
 
     private static final String[] OUTSIDE = {"->", "::", "try ", "catch", "finally", "synchronized", "assert ",
-        "Exact(", "equals(", "hashCode", "System.out", "new Object", "protected ", "Random", "Thread"};
+        "Exact(", "equals(", "hashCode", "System.out", "new Object", "protected ", "Random", "Thread", "_VALUE"};
 
     public static void main(String[] args) throws Exception {
         members();
